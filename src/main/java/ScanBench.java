@@ -20,7 +20,7 @@ public final class ScanBench {
     private final Driver driver;
     private final Trial trial;
     private final Sight latest;
-    private final boolean[] isCovered;
+    private final int[] covered;
 
     public ScanBench() {
         circuit = new Circuit();
@@ -30,7 +30,7 @@ public final class ScanBench {
         driver = new Driver(chains);
         trial = new Trial(new Controller(new Board(circuit, chains)), driver, tests);
         latest = new Sight();
-        isCovered = new boolean[2 * MAX_LINES];
+        covered = new int[2 * MAX_LINES];
     }
 
     // ---- circuits
@@ -302,18 +302,18 @@ public final class ScanBench {
     }
 
     public int covers() {
-        Arrays.fill(isCovered, false);
-        int covered = 0;
+        Arrays.fill(covered, 0);
+        int sum = 0;
         for (int t = 0; t < tests.size; t++) {
             trial.startWith(t);
             for (int f = 0; f < 2 * circuit.lines; f++) {
-                if (!isCovered[f] && trial.reveals(f >> 1, f & 1)) {
-                    isCovered[f] = true;
-                    covered++;
+                if (covered[f] == 0 && trial.reveals(f >> 1, f & 1)) {
+                    covered[f] = 1;
+                    sum++;
                 }
             }
         }
-        return covered;
+        return sum;
     }
 
     public int same(int l, int m) {

@@ -15,7 +15,7 @@ public final class FaceTest {
         "shownBy(int,int)", "shows(int,int,int)", "source(int,int)", "state(int)", "stick(int,int)", "stitch()",
         "tag(int)", "test(int,int)", "tick(int,int)", "unchain(int)"};
     private static final String[] RULED_OUT = {"throw", "throws", "try", "catch", "synchronized", "assert",
-        "Exception", "Object", "Random", "System", "Exact", "->", "::"};
+        "Exception", "Object", "Random", "System\\.(?!arraycopy)", "\\w+Exact", "->", "::"};
 
     private static int wrong = 0;
 

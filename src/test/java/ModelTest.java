@@ -73,7 +73,8 @@ public final class ModelTest {
         int lines = m.lines.size(), cells = m.cells.size(), ins = m.inputs.size(), tests = m.tests.size();
         switch (call) {
             case 0: return new int[0];
-            case 1: return new int[] {near(r, 7, wild), near(r, lines, wild), near(r, lines, wild), near(r, lines, wild)};
+            case 1: return new int[] {near(r, 7, wild), near(r, lines, wild), near(r, lines, wild),
+                near(r, lines, wild)};
             case 2: return new int[] {near(r, 3, wild)};
             case 3: return new int[] {near(r, cells, wild), near(r, lines, wild)};
             case 4: return new int[] {near(r, lines, wild)};
@@ -154,7 +155,8 @@ public final class ModelTest {
 
     private static final class Model {
         static final int UNKNOWN = -1001, OUTSIDE = -1002, NOT = -1003, FULL = -1004;
-        static final String[] NEXT = "1,0 1,2 3,9 4,5 4,5 6,8 6,7 4,8 1,2 10,0 11,12 11,12 13,15 13,14 11,15 1,2".split(" ");
+        static final String[] NEXT = {"1,0", "1,2", "3,9", "4,5", "4,5", "6,8", "6,7", "4,8", "1,2", "10,0", "11,12",
+            "11,12", "13,15", "13,14", "11,15", "1,2"};
 
         List<Line> lines = new ArrayList<>();
         List<Integer> inputs = new ArrayList<>(), cells = new ArrayList<>(), outputs = new ArrayList<>();

@@ -43,6 +43,7 @@ public final class PromisesTest {
         tests();
         drives();
         drivesFromAnyState();
+        drivesFromShift();
         drivesWithTurned();
         seen();
         shows();
@@ -852,6 +853,27 @@ public final class PromisesTest {
         }
     }
 
+    /** The first TICK of a drive may SHIFT: IN is 0 there. */
+    private static void drivesFromShift() {
+        for (int order = 4; order < 8; order++) {
+            ScanBench x = new ScanBench();
+            x.test(0, 0);
+            x.tag(0xFFFF);
+            if (order == 4) {
+                lead(x, WAY[4]);
+            } else {
+                give(x, order);
+                lead(x, "100");
+                x.tick(0, 1);
+                due("ASIDE", x.state(3), 1);
+            }
+            due("STATE", x.state(0), 4);
+            x.drive(0);
+            due("ASIDE", x.state(3), 0);
+            due("the TAG's row", x.state(4), order == 4 ? 0x7FFF : 0);
+        }
+    }
+
     /** Every way to turn four CELLS over three CHAINS, every bit: they HOLD their bits as OUTPUTS are SEEN. */
     private static void drivesWithTurned() {
         int[][] places = {{0, 0, 0, 0}, {2, 1, 0, 2}, {1, 1, 2, 2}, {0, 2, 0, 2}};
@@ -974,6 +996,21 @@ public final class PromisesTest {
         y.test(0, 0);
         due("unlike, but not known", y.shows(0, 0, 0), 0);
         due("unlike, but not known", y.shows(0, 0, 1), 0);
+        // CELL 0 in no CHAIN HOLDS AND of INPUT 0 and itself: 0 by 0, but by 1 it stays not known.
+        ScanBench w = withInputs(1);
+        w.cell(0);
+        w.gate(0, 0, 1, 0);
+        w.gate(2, 0, 1, 0);
+        w.source(0, 2);
+        w.output(3);
+        w.test(0, 0);
+        w.hold(0, 0);
+        due("both from the same beginning", w.shows(0, 0, 1), 0);
+        due("both from the same beginning", w.shows(0, 3, 1), 1);
+        due("both from the same beginning", w.shows(0, 0, 1), 0);
+        due("shownBy, too", w.shownBy(0, 1), NONE);
+        // LINES 1, 2 and 3 at 1
+        due("covers, too", w.covers(), 3);
         // Only what is unloaded shows it.
         ScanBench z = withCells(0, 0);
         z.gate(3, 0, 0, 0);
@@ -1086,6 +1123,19 @@ public final class PromisesTest {
         y.cell(2);
         due("eleven in all", y.same(0, 9), NOT);
         due("eleven in all, UNKNOWN first", y.same(0, 12), UNKNOWN);
+        ScanBench z = withCells(0, 0);
+        z.gate(0, 0, 1, 0);
+        due("AND, its first CELL", z.same(2, 0), 3);
+        due("AND, its second CELL", z.same(1, 2), 3);
+        z.output(2);
+        z.stitch();
+        z.test(0, 3);
+        due("shows(0, 0, 0)", z.shows(0, 0, 0), 1);
+        due("what was tried is not STUCK", z.same(2, 1), 3);
+        fillLines(z);
+        // LINE 3 is NOT of LINE 0, and so are all behind it
+        due("the last LINE", z.same(79, 3), 4);
+        due("the last LINE", z.same(0, 79), 0);
     }
 
     // ---- wrong numbers far out, and the largest bench
